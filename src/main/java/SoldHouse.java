@@ -821,26 +821,19 @@ public final class SoldHouse {
             fault = 0;
             faultPlace = NONE;
             tokens.begin();
-            for (int lines = 0; lines < MAX_TEXT && tokens.kind != Tokens.END; lines++) {
-                if (!readLine()) {
-                    return false;
+            boolean fine = true;
+            for (int lines = 0; lines < MAX_TEXT && fine && tokens.kind != Tokens.END; lines++) {
+                switch (tokens.kind == Tokens.WORD ? tokens.value : NONE) {
+                    case Tokens.ROOM: fine = readRoom(); break;
+                    case Tokens.DOOR: fine = readDoor(); break;
+                    case Tokens.THING: fine = readThing(); break;
+                    case Tokens.SURE: fine = readSure(); break;
+                    case Tokens.DRAW: fine = readDraw(); break;
+                    default: fine = refuse(MISPLACED); break;
                 }
+                fine = fine && readSign(';');
             }
-            return true;
-        }
-
-        private boolean readLine() {
-            if (tokens.kind != Tokens.WORD) {
-                return refuse(MISPLACED);
-            }
-            switch (tokens.value) {
-                case Tokens.ROOM: return readRoom() && readSign(';');
-                case Tokens.DOOR: return readDoor() && readSign(';');
-                case Tokens.THING: return readThing() && readSign(';');
-                case Tokens.SURE: return readSure() && readSign(';');
-                case Tokens.DRAW: return readDraw() && readSign(';');
-                default: return refuse(MISPLACED);
-            }
+            return fine;
         }
 
         private boolean readRoom() {
@@ -966,8 +959,7 @@ public final class SoldHouse {
                 return refuse(MISPLACED);
             }
             plan.drawTold = true;
-            tokens.advance();
-            plan.draw = readNumber(MOST_DRAW);
+            plan.draw = readNumberBehind(Tokens.DRAW, MOST_DRAW);
             return plan.draw != NONE;
         }
 
@@ -1135,10 +1127,6 @@ public final class SoldHouse {
                 return 0;
             }
             tokens.advance();
-            return readNumber(most);
-        }
-
-        private int readNumber(int most) {
             if (tokens.kind != Tokens.NUMBER) {
                 refuse(MISPLACED);
                 return NONE;

@@ -1,0 +1,113 @@
+import java.lang.reflect.Constructor;
+import java.lang.reflect.Field;
+import java.lang.reflect.Method;
+import java.lang.reflect.Modifier;
+import java.nio.file.Files;
+import java.nio.file.Path;
+import java.util.ArrayList;
+import java.util.List;
+import java.util.Set;
+import java.util.TreeSet;
+import java.util.regex.Matcher;
+import java.util.regex.Pattern;
+
+/** The face of the document, and those rules of LANGUAGE.md that can be seen from the class or its text. */
+public final class LanguageTest {
+  private static final Checks c = new Checks("LanguageTest");
+  private static final String FACE = "feed(int,int,int,int,int):int end(int):int house():int fault(int):int room(int,int):int "
+      + "thing(int,int):int door(int,int):int far(int,int):int tell(int):int hear(int):int carry(int,int):int send(int):int "
+      + "day():int undo():boolean redo():boolean way(int,int):int quiet(int,int):int ways(int,int):int pieces():int "
+      + "parts():int hunt(int):int first(int):int meet(int,int,int):int bar(int,int,int):int tour(int,int):int centre():int "
+      + "nooks():int echo(int,int):int mend(int):int regret():int trade(int):int trades():int wealth(int):int off():int "
+      + "right():int deep(int):int stay(int,int,int):int will(int,int):int lost():int lies(int):int "
+      + "heard(int,int,boolean):int seen(int,int,boolean):int untell(int):boolean later(int):int walks(int):int "
+      + "certain(int,int):int ask(int,int):int image(int):int back(int):int about(int):int";
+
+  public static void main(String[] args) throws Exception {
+    theFace();
+    List<Class<?>> all = new ArrayList<>(List.of(SoldHouse.class.getDeclaredClasses()));
+    c.due("at most some twelve classes", all.size() < 12, true);
+    all.add(SoldHouse.class);
+    for (Class<?> one : all) theClass(one);
+    theText(Files.readString(Path.of("src/main/java/SoldHouse.java")));
+    c.finish();
+  }
+
+  private static String nameOf(Method m) {
+    List<String> types = new ArrayList<>();
+    for (Class<?> t : m.getParameterTypes()) types.add(t.getName());
+    return m.getName() + "(" + String.join(",", types) + "):" + m.getReturnType().getName();
+  }
+
+  private static void theFace() {
+    Class<?> face = SoldHouse.class;
+    c.due("public and final", face.getModifiers(), Modifier.PUBLIC | Modifier.FINAL);
+    Set<String> due = new TreeSet<>(List.of(FACE.split(" ")));
+    Set<String> got = new TreeSet<>();
+    for (Method m : face.getDeclaredMethods()) {
+      if (!Modifier.isPrivate(m.getModifiers())) {
+        got.add(nameOf(m));
+        c.due(m + " is public alone", m.getModifiers(), Modifier.PUBLIC);
+      }
+    }
+    c.due("the methods " + due + " are " + got, got.equals(due), true);
+    Constructor<?>[] made = face.getDeclaredConstructors();
+    c.due("one constructor", made.length, 1);
+    c.due("it is public", made[0].getModifiers(), Modifier.PUBLIC);
+    for (Field f : face.getDeclaredFields()) {
+      c.due(f + " is NONE or private", f.getName().equals("NONE") || Modifier.isPrivate(f.getModifiers()), true);
+    }
+  }
+
+  private static void theClass(Class<?> one) {
+    Set<String> open = new TreeSet<>();
+    for (String m : FACE.split(" ")) open.add(m.substring(0, m.indexOf('(')));
+    int fields = 0;
+    for (Field f : one.getDeclaredFields()) {
+      if (Modifier.isStatic(f.getModifiers())) {
+        c.due(f + " is final", Modifier.isFinal(f.getModifiers()), true);
+      } else {
+        fields++;
+      }
+    }
+    c.due(one + " has few fields", fields <= 20, true);
+    c.due(one + " is static or the face", one == SoldHouse.class || Modifier.isStatic(one.getModifiers()), true);
+    for (Method m : one.getDeclaredMethods()) {
+      boolean face = one == SoldHouse.class && Modifier.isPublic(m.getModifiers());
+      c.due(m + " has a name of its own", face || !open.contains(m.getName()), true);
+      c.due(m + " takes seven at most", m.getParameterCount() <= 7, true);
+    }
+  }
+
+  private static void theText(String source) {
+    String code = source.replaceAll("(?s)/\\*.*?\\*/", "").replaceAll("//.*", "")
+        .replaceAll("\"[^\"\n]*\"", "\"\"").replaceAll("'[^'\n]*'", "' '");
+    String[] words = {"throw", "throws", "try", "catch", "finally", "synchronized", "assert", "package", "protected", "double",
+        "float", "native", "volatile", "Object", "Thread", "Random", "record", "goto", "toString", "hashCode"};
+    for (String word : words) {
+      c.due("no " + word, Pattern.compile("\\b" + word + "\\b").matcher(code).find(), false);
+    }
+    for (String sign : new String[] {"->", "::", "@", "Exact", "static {", "\"\" +", "+ \"\""}) {
+      c.due("no " + sign, code.contains(sign), false);
+    }
+    Matcher imports = Pattern.compile("import ([\\w.]+);").matcher(code);
+    while (imports.find()) c.due("import " + imports.group(1), imports.group(1).equals("java.util.Arrays"), true);
+    Set<String> library = new TreeSet<>();
+    Matcher used = Pattern.compile("\\b(Arrays|System|Integer|Math|Long)\\.(\\w+)").matcher(code);
+    while (used.find()) library.add(used.group());
+    library.removeAll(List.of("Arrays.fill", "System.arraycopy", "Integer.bitCount", "Math.max", "Math.min"));
+    c.due("of the library " + library, library.size(), 0);
+    for (char sign : source.toCharArray()) c.due("a sign", sign < 127, true);
+    methodsAreShort(source.split("\n"));
+  }
+
+  private static void methodsAreShort(String[] lines) {
+    for (int i = 0; i < lines.length; i++) {
+      Matcher head = Pattern.compile("^( {4}| {8})(?!private static final class)\\S.*\\) \\{$").matcher(lines[i]);
+      if (!head.find() || lines[i].contains(" if (") || lines[i].contains(" for (")) continue;
+      int end = i;
+      while (end < lines.length && !lines[end].equals(head.group(1) + "}")) end++;
+      c.due(lines[i].trim() + " is short", end - i <= 60, true);
+    }
+  }
+}
