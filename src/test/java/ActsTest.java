@@ -140,6 +140,16 @@ public final class ActsTest {
     }
     c.due("day 500", x.about(3), 500);
     c.due("its ACTS", x.about(5), 40);
+    // beyond 512 calls nothing is promised; the last DAY is looked at all the same
+    for (int i = 501; i <= 999; i++) x.day();
+    c.due("day 999", x.about(3), 999);
+    x.undo();
+    x.redo();
+    x.undo();
+    c.due("the last day()", x.day(), 0);
+    c.due("day() behind 999", x.day(), -1);
+    c.due("it did nothing", x.about(3), 999);
+    c.due("nor an ACT", x.about(5), 40);
   }
 
   private static void undoing() {

@@ -99,6 +99,17 @@ public final class LanguageTest {
     c.due("of the library " + library, library.size(), 0);
     for (char sign : source.toCharArray()) c.due("a sign", sign < 127, true);
     methodsAreShort(source.split("\n"));
+    onlyMakingMakes(code.split("\n"));
+  }
+
+  /** All calls of a run share one room: rows are made with the object, and no call makes any. */
+  private static void onlyMakingMakes(String[] lines) {
+    for (String line : lines) {
+      if (line.contains("new ")) {
+        boolean field = line.matches("\\s+(private |final )+.*= new .*") || line.trim().equals("tokens = new Tokens(tape);");
+        c.due(line.trim() + " is a field's", field, true);
+      }
+    }
   }
 
   private static void methodsAreShort(String[] lines) {
