@@ -3,16 +3,42 @@ final class Checks {
   private final String name;
   private int asked;
   private int wrong;
+  private String sentence = "";
 
   Checks(String name) {
     this.name = name;
   }
 
+  /** Which words of a promise the answers below are about; QuotesTest looks whether they stand in the document. */
+  void promise(int number, String words) {
+    sentence = "promise " + number + " [" + words + "] ";
+  }
+
+  /** Likewise, for words under 'Terms'. */
+  void term(String words) {
+    sentence = "terms [" + words + "] ";
+  }
+
   void due(String call, long got, long want) {
     asked++;
-    if (got != want) {
-      wrong++;
-      if (wrong <= 40) System.out.println(name + ": " + call + " answered " + got + ", due is " + want);
+    if (got != want) wrong(call + " answered " + got + ", due is " + want);
+  }
+
+  private void wrong(String what) {
+    wrong++;
+    if (wrong <= 40) System.out.println(name + ": " + sentence + what);
+  }
+
+  /** Two lists of answers that must be the same, called by what was asked. */
+  void same(String call, java.util.List<String> got, java.util.List<String> want) {
+    asked++;
+    for (int i = 0; i < Math.max(got.size(), want.size()); i++) {
+      String one = i < got.size() ? got.get(i) : "nothing";
+      String other = i < want.size() ? want.get(i) : "nothing";
+      if (!one.equals(other)) {
+        wrong(call + " left " + one + ", due is " + other);
+        return;
+      }
     }
   }
 
