@@ -8,6 +8,7 @@ public final class NightBoundsTest {
   private static final int[] NEVER = {-1, -2, -8, Integer.MIN_VALUE, Integer.MAX_VALUE};
   /** WALKS through a, b, d: 3, 7, 17, 41, 99, 239, 577, 1393 by one to eight minutes; from an end 1, 2, 5, 12, 29, 70, 169, 408. */
   private static final String LINE = "room a creaks 1;room b creaks 5;room d creaks 9;door a b;door b d;";
+  private static final String EIGHT = "room a;room b;room c;room d;room e;room f;room g;room h;";
   private static final int[] FROM_END = {1, 2, 5, 12, 29, 70, 169, 408};
   private static final int[] FROM_MIDDLE = {1, 3, 7, 17, 41, 99, 239, 577};
 
@@ -226,7 +227,7 @@ public final class NightBoundsTest {
     c.due("one ROOM", Checks.of("room a;").walks(0), 1);
     c.due("two apart", Checks.of("room a;room b;").walks(0), 2);
     c.due("two joined", Checks.of("room a;room b;door a b;").walks(0), 256);
-    c.due("eight apart", Checks.of("room a;room b;room c;room d;room e;room f;room g;room h;").walks(0), 8);
+    c.due("eight apart", Checks.of(EIGHT).walks(0), 8);
     c.due("a line", Checks.of(LINE).walks(0), 1393);
     c.due("five, each joined with each", Checks.of(five()).walks(0), 390625);
     SoldHouse x = Checks.of(LINE);
@@ -279,6 +280,15 @@ public final class NightBoundsTest {
     c.due("between", x.certain(3, 0), 1);
     c.due("ahead", x.certain(1, 0), -2);
     c.due("behind", x.certain(5, 0), -2);
+    for (int room = 0; room < 8; room++) {
+      x = Checks.of(EIGHT);
+      x.seen(3, room, true);
+      for (int m = 0; m < 8; m++) c.due("eight apart: certain(" + m + ", 0) by " + room, x.certain(m, 0), room);
+      c.due("eight apart: walks(0)", x.walks(0), 1);
+    }
+    x = Checks.of(EIGHT);
+    x.seen(7, 0, false);
+    for (int m = 0; m < 8; m++) c.due("seven apart: certain(" + m + ", 0)", x.certain(m, 0), -2);
     c.due("one ROOM", Checks.of("room a;").certain(7, 0), 0);
     c.due("of nothing", new SoldHouse().certain(0, 0), -1);
     twins.still("certain(0, 12)", -2, y -> y.certain(0, 12));
@@ -316,6 +326,15 @@ public final class NightBoundsTest {
     c.due("one is left", x.ask(1, 0), 1);
     c.due("one ROOM: ask(0, 0)", Checks.of("room a;").ask(0, 0), 0);
     c.due("one ROOM: ask(1, 0)", Checks.of("room a;").ask(1, 0), 1);
+    c.due("eight apart: ask(0, 0)", Checks.of(EIGHT).ask(0, 0), 0);
+    c.due("eight apart: ask(1, 0)", Checks.of(EIGHT).ask(1, 0), 1);
+    // two joined among eight: whoever is in these two leaves 128 by minute 0
+    c.due("two of eight joined: ask(1, 0)", Checks.of(EIGHT + "door a h;").ask(1, 0), 128);
+    x = Checks.of(EIGHT + "door a h;");
+    x.seen(0, 7, true);
+    for (int m = 1; m < 7; m++) x.seen(m, 0, false);
+    c.due("but at the last: ask(0, 0)", x.ask(0, 0), 7);
+    c.due("but at the last: ask(1, 0)", x.ask(1, 0), 1);
     c.due("two apart: ask(0, 0)", Checks.of("room a;room b;").ask(0, 0), 0);
     c.due("two apart: ask(1, 0)", Checks.of("room a;room b;").ask(1, 0), 1);
     twins.still("ask(0, 9)", 0, y -> y.ask(0, 9));

@@ -11,6 +11,8 @@ public final class RoomBoundsTest {
   private static final String SQUARE = "room a creaks 1;room b creaks 9;room c creaks 2;room d creaks 1;room e;room f creaks 3;"
       + "door a b;door b d;door a c;door c d;door e d;";
   private static final String LINE = line(8);
+  /** 8 ROOMS and 12 DOORS: h hangs on a by the last one, the others are a wheel about a. */
+  private static final String TWELVE = star(7) + "door b c;door c d;door d e;door e f;door f g;room h;door h a;";
   /** Two ROOMS that nothing joins. */
   private static final String APART = "room a creaks 4;room b creaks 5;";
 
@@ -177,6 +179,12 @@ public final class RoomBoundsTest {
       c.due("ways(1, 0) of " + n + " lanes", x.ways(1, 0), n == 0 ? -1 : n);
       c.due("ways(0, 0) of " + n + " lanes", x.ways(0, 0), 1);
     }
+    for (int a = 0; a < 8; a++) {
+      for (int b = 0; b < 8; b++) {
+        c.due("ways(" + a + ", " + b + ") in a line", Checks.of(LINE).ways(a, b), 1);
+        c.due("ways(" + a + ", " + b + ") in a ring", Checks.of(LINE + "door h a;").ways(a, b), Math.abs(a - b) == 4 ? 2 : 1);
+      }
+    }
     // longer ones do not count; ways that part and join again multiply
     SoldHouse x = Checks.of("room a;room b;room c;room d;room e;room f;room g;door a b;door a c;door b d;door c d;door d e;door d f;door e g;door f g;door a g;");
     c.due("ways(0, 6)", x.ways(0, 6), 1);
@@ -219,7 +227,7 @@ public final class RoomBoundsTest {
       if (n > 2) c.due("a ring of " + n, Checks.of(line(n) + "door a " + (char) ('a' + n - 1) + ";").parts(), 0);
     }
     // 12 DOORS: the last of them may part
-    SoldHouse x = Checks.of(star(7) + "door b c;door c d;door d e;door e f;door f g;room h;door h a;");
+    SoldHouse x = Checks.of(TWELVE);
     c.due("parts() of 12", x.parts(), 1 << 11);
     c.due("NEAR side of the last", x.door(11, 3), 128);
     c.due("NEAR side of one that does not part", x.door(0, 3), 255);
@@ -254,6 +262,12 @@ public final class RoomBoundsTest {
     c.due("hunt(4) of two ROOMS", x.hunt(4), -1);
     c.due("hunt(1) of nothing", new SoldHouse().hunt(1), -1);
     c.due("hunt(0) of nothing", new SoldHouse().hunt(0), -1);
+    // 12 DOORS, of which the last alone parts
+    x = Checks.of(TWELVE);
+    c.due("hunt(129) of 12 DOORS", x.hunt(129), 1);
+    c.due("hunt(131) of 12 DOORS", x.hunt(131), -1);
+    c.due("first(129) of 12 DOORS", x.first(129), 11);
+    c.due("first(131) of 12 DOORS", x.first(131), -1);
     twins.still("hunt(7)", 2, y -> y.hunt(7));
     twins.still("hunt(15)", -1, y -> y.hunt(15));
     for (int set : new int[] {0, 16, 17, 31, 256, -1, -16, 1 << 30, Integer.MIN_VALUE, Integer.MIN_VALUE + 1, Integer.MAX_VALUE}) {

@@ -73,6 +73,7 @@ final class Twins {
   static List<String> all(SoldHouse x, boolean lies, boolean faults) {
     List<String> said = new ArrayList<>();
     open(x, said, lies);
+    whole(x, said);
     for (int what = 0; faults && what < 2; what++) say(said, "fault(" + what + ")", x.fault(what));
     int back = 0;
     while (back < 45 && x.undo()) {
@@ -109,6 +110,13 @@ final class Twins {
     }
     for (int i = 0; lies && i <= x.about(11); i++) say(said, "lies(" + i + ")", x.lies(i));
     for (int k : new int[] {9, 10, 12, 13, 15, 16}) say(said, "walks(" + k + ")", x.walks(k));
+  }
+
+  /** What is asked of all ROOMS, all DOORS and all THINGS together. */
+  private static void whole(SoldHouse x, List<String> said) {
+    int[] answers = {x.pieces(), x.parts(), x.centre(), x.nooks(), x.mend(3), x.regret(), x.trade(0), x.trade(1), x.trade(2), x.trades(),
+        x.wealth(0), x.wealth(1), x.off(), x.right(), x.deep(1), x.lost(), x.certain(0, 12), x.ask(0, 12), x.ask(1, 12)};
+    for (int i = 0; i < answers.length; i++) say(said, "of all, " + i + ":", answers[i]);
   }
 
   private static void memory(SoldHouse x, List<String> said, String when) {
