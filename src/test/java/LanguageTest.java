@@ -1,3 +1,4 @@
+import java.lang.reflect.Array;
 import java.lang.reflect.Constructor;
 import java.lang.reflect.Field;
 import java.lang.reflect.Method;
@@ -5,6 +6,8 @@ import java.lang.reflect.Modifier;
 import java.nio.file.Files;
 import java.nio.file.Path;
 import java.util.ArrayList;
+import java.util.Collections;
+import java.util.IdentityHashMap;
 import java.util.List;
 import java.util.Set;
 import java.util.TreeSet;
@@ -14,23 +17,29 @@ import java.util.regex.Pattern;
 /** The face of the document, and those rules of LANGUAGE.md that can be seen from the class or its text. */
 public final class LanguageTest {
   private static final Checks c = new Checks("LanguageTest");
-  private static final String FACE = "feed(int,int,int,int,int):int end(int):int house():int fault(int):int room(int,int):int "
-      + "thing(int,int):int door(int,int):int far(int,int):int tell(int):int hear(int):int carry(int,int):int send(int):int "
-      + "day():int undo():boolean redo():boolean way(int,int):int quiet(int,int):int ways(int,int):int pieces():int "
-      + "parts():int hunt(int):int first(int):int meet(int,int,int):int bar(int,int,int):int tour(int,int):int centre():int "
-      + "nooks():int echo(int,int):int mend(int):int regret():int trade(int):int trades():int wealth(int):int off():int "
-      + "right():int deep(int):int stay(int,int,int):int will(int,int):int lost():int lies(int):int "
-      + "heard(int,int,boolean):int seen(int,int,boolean):int untell(int):boolean later(int):int walks(int):int "
-      + "certain(int,int):int ask(int,int):int image(int):int back(int):int about(int):int";
+  /** As the document says it: name(types):type. */
+  private static final Set<String> FACE = new TreeSet<>();
 
   public static void main(String[] args) throws Exception {
+    readFace(Files.readString(Path.of("../shared/DOC.md")));
     theFace();
     List<Class<?>> all = new ArrayList<>(List.of(SoldHouse.class.getDeclaredClasses()));
     c.due("at most some twelve classes", all.size() < 12, true);
     all.add(SoldHouse.class);
     for (Class<?> one : all) theClass(one);
     theText(Files.readString(Path.of("src/main/java/SoldHouse.java")));
+    theRoomItTakes();
     c.finish();
+  }
+
+  private static void readFace(String document) {
+    int start = document.indexOf("```java");
+    String face = document.substring(start, document.indexOf("```", start + 3));
+    Matcher row = Pattern.compile("public (int|boolean) (\\w+)\\((.*?)\\);").matcher(face);
+    while (row.find()) FACE.add(row.group(2) + "(" + row.group(3).replaceAll(" \\w+(,|$)", "$1").replace(" ", "") + "):" + row.group(1));
+    c.due("so many methods in the document", FACE.size(), 50);
+    c.due("NONE in the document", face.contains("public static final int NONE = -1;"), true);
+    c.due("NONE", SoldHouse.NONE, -1);
   }
 
   private static String nameOf(Method m) {
@@ -42,7 +51,6 @@ public final class LanguageTest {
   private static void theFace() {
     Class<?> face = SoldHouse.class;
     c.due("public and final", face.getModifiers(), Modifier.PUBLIC | Modifier.FINAL);
-    Set<String> due = new TreeSet<>(List.of(FACE.split(" ")));
     Set<String> got = new TreeSet<>();
     for (Method m : face.getDeclaredMethods()) {
       if (!Modifier.isPrivate(m.getModifiers())) {
@@ -50,7 +58,7 @@ public final class LanguageTest {
         c.due(m + " is public alone", m.getModifiers(), Modifier.PUBLIC);
       }
     }
-    c.due("the methods " + due + " are " + got, got.equals(due), true);
+    c.due("the methods " + FACE + " are " + got, got.equals(FACE), true);
     Constructor<?>[] made = face.getDeclaredConstructors();
     c.due("one constructor", made.length, 1);
     c.due("it is public", made[0].getModifiers(), Modifier.PUBLIC);
@@ -61,7 +69,7 @@ public final class LanguageTest {
 
   private static void theClass(Class<?> one) {
     Set<String> open = new TreeSet<>();
-    for (String m : FACE.split(" ")) open.add(m.substring(0, m.indexOf('(')));
+    for (String m : FACE) open.add(m.substring(0, m.indexOf('(')));
     int fields = 0;
     for (Field f : one.getDeclaredFields()) {
       if (Modifier.isStatic(f.getModifiers())) {
@@ -100,6 +108,32 @@ public final class LanguageTest {
     for (char sign : source.toCharArray()) c.due("a sign", sign < 127, true);
     methodsAreShort(source.split("\n"));
     onlyMakingMakes(code.split("\n"));
+  }
+
+  /** All objects of a run share one room of 600,000 objects and 7.3 million elements: one object is to take little of it. */
+  private static void theRoomItTakes() throws IllegalAccessException {
+    Set<Object> found = Collections.newSetFromMap(new IdentityHashMap<>());
+    long elements = measure(new SoldHouse(), found);
+    c.due("objects and arrays: " + found.size(), found.size() < 200, true);
+    c.due("fields and elements: " + elements, elements < 10000, true);
+  }
+
+  private static long measure(Object one, Set<Object> found) throws IllegalAccessException {
+    if (one == null || one instanceof String || !found.add(one)) return 0;
+    Class<?> type = one.getClass();
+    long elements = 0;
+    if (type.isArray()) {
+      int length = Array.getLength(one);
+      elements = length;
+      for (int i = 0; i < length && !type.getComponentType().isPrimitive(); i++) elements += measure(Array.get(one, i), found);
+      return elements;
+    }
+    for (Field field : type.getDeclaredFields()) {
+      if (Modifier.isStatic(field.getModifiers())) continue;
+      field.setAccessible(true);
+      elements += 1 + (field.getType().isPrimitive() ? 0 : measure(field.get(one), found));
+    }
+    return elements;
   }
 
   /** All calls of a run share one room: rows are made with the object, and no call makes any. */

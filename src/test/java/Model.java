@@ -85,6 +85,24 @@ final class Model {
 
   // the text
 
+  int feed(int... five) {
+    if (tape.length() + 20 > 1600) return -1;
+    for (int four : five) {
+      for (int i = 3; i >= 0; i--) tape.append((char) (four >>> 8 * i & 255));
+    }
+    return tape.length();
+  }
+
+  int end(int n) {
+    if (n < 0 || n > tape.length()) return -1;
+    tape.setLength(n);
+    return n;
+  }
+
+  int fault(int what) {
+    return what == 0 ? fault : what == 1 ? place : -1;
+  }
+
   int house() {
     try {
       House read = new Parser(tape.toString()).house();
@@ -470,7 +488,15 @@ final class Model {
     return best;
   }
 
-  int hunt(int set, int what) {
+  int hunt(int set) {
+    return hunted(set, 0);
+  }
+
+  int first(int set) {
+    return hunted(set, 1);
+  }
+
+  private int hunted(int set, int what) {
     if (set == 0 || !isSet(set)) return -1;
     hunted.clear();
     int[] near = new int[h.doors.size()];
@@ -802,7 +828,15 @@ final class Model {
 
   // the night
 
-  int note(int minute, boolean creaks, int value, boolean is) {
+  int heard(int minute, int creaks, boolean is) {
+    return note(minute, true, creaks, is);
+  }
+
+  int seen(int minute, int room, boolean is) {
+    return note(minute, false, room, is);
+  }
+
+  private int note(int minute, boolean creaks, int value, boolean is) {
     boolean can = creaks ? value >= 0 && value <= 9 : isRoom(value);
     if (minute < 0 || minute > 7 || !can || heards.size() == 30) return -1;
     heards.add(new Heard(minute, creaks, value, is, time, new int[] {-1}));
@@ -826,11 +860,13 @@ final class Model {
     int[][] counts = new int[8][8];
     List<Heard> known = new ArrayList<>();
     for (Heard x : heards) if (x.told <= k && (x.untold[0] < 0 || x.untold[0] > k)) known.add(x);
-    for (int r = 0; r < h.rooms.size(); r++) walk(new int[8], 0, r, known, counts);
+    boolean[][] next = new boolean[8][8];
+    for (int i = 0; i < 8; i++) for (int j = 0; j < 8; j++) next[i][j] = i == j || joined(i, j, null);
+    for (int r = 0; r < h.rooms.size(); r++) walk(new int[8], 0, r, known, counts, next);
     return counts;
   }
 
-  private void walk(int[] rooms, int minute, int room, List<Heard> known, int[][] counts) {
+  private void walk(int[] rooms, int minute, int room, List<Heard> known, int[][] counts, boolean[][] next) {
     for (Heard x : known) {
       if (x.minute == minute && (x.creaks ? h.creaks.get(room) >= x.value : room == x.value) != x.is) return;
     }
@@ -840,7 +876,7 @@ final class Model {
       return;
     }
     for (int n = 0; n < h.rooms.size(); n++) {
-      if (n == room || joined(room, n, null)) walk(rooms, minute + 1, n, known, counts);
+      if (next[room][n]) walk(rooms, minute + 1, n, known, counts, next);
     }
   }
 
